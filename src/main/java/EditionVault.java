@@ -471,7 +471,7 @@ public final class EditionVault {
             ties.tally(editions, contents);
             return ties.ownPaths[content];
         }
-        return contents.told(content, what);
+        return contents.factOf(content, what);
     }
 
     // ---- single paths ----
@@ -1422,7 +1422,7 @@ public final class EditionVault {
         private void findRun(int[] from, int start, int n, int[] base, int baseLength) {
             runPlace = 0;
             runLength = 0;
-            for (int place = 0; place + runLength < baseLength; place++) {
+            for (int place = 0; place + runLength < baseLength && start + runLength < n; place++) {
                 int length = 0;
                 while (start + length < n && place + length < baseLength
                         && from[start + length] == base[place + length]) {
@@ -1728,7 +1728,7 @@ public final class EditionVault {
 
         // -- telling --
 
-        int told(int content, int what) {
+        int factOf(int content, int what) {
             switch (what) {
                 case 0: return lengths[content];
                 case 1: return marks[content];
