@@ -425,6 +425,27 @@ public final class PromisesTest {
         due("7: full", v.count(7), 0);
         write(v, "z", "");
         due("7: nothing needs no room", v.commit(), 2);
+        EditionVault u = new EditionVault();
+        for (int i = 0; i < 11; i++) {
+            write(u, "" + (char) ('a' + i), stepped(3 + 2 * i, 40));
+        }
+        due("7: no room at the first", u.commit(), -4);
+        due("7: no contents", u.count(5), 0);
+        due("7: all free", u.count(7), 400);
+        due("7: row as before", u.row(0), 0);
+        remove(v, "a");
+        remove(v, "z");
+        v.commit();
+        v.thin(1);
+        due("7: free again", v.owner(0), -2);
+        v.spoil(0, 55);
+        v.spoil(39, 56);
+        write(v, "q", stepped(51, 40));
+        write(v, "r", "r");
+        due("7: room for the first alone", v.commit(), -4);
+        due("7: still free", v.owner(0), -2);
+        due("7: first free byte as before", v.row(0), 55);
+        due("7: last free byte as before", v.row(39), 56);
         EditionVault w = new EditionVault();
         for (int i = 0; i < 40; i++) {
             write(w, "" + (char) ('a' + i % 10), "" + (char) (1 + i));
@@ -566,6 +587,11 @@ public final class PromisesTest {
         due("10: also of stays", v.of(3, 1), 2);
         due("10: two", v.drop(2), 0);
         due("10: was also of it", v.of(3, 1), 0);
+        v.join(3, 0);
+        v.join(0, 3);
+        v.drop(2);
+        due("10: stage of another stays", v.count(1), 0);
+        due("10: stage also of another stays", v.count(2), 3);
         v.join(3, 0);
         due("10: last", v.drop(0), 2);
         due("10: of none", v.of(3, 0), -2);
@@ -802,6 +828,14 @@ public final class PromisesTest {
         due("17: sealed ones stay", v.drops(7, 1), 4);
         due("17: sealed ones stay", v.drops(25, 1), -2);
         due("17: nothing is dropped", v.count(3), 3);
+        EditionVault w = new EditionVault();
+        for (int i = 0; i < 10; i++) {
+            write(w, "a", "" + (char) (i + 1));
+            w.commit();
+        }
+        due("17: all ten", w.drops(10, 0), 10);
+        due("17: all ten", w.drops(10, 1), 1023);
+        due("17: nine of ten", w.drops(9, 1), 511);
         due("17: bytes -1", v.drops(-1, 0), -1);
         due("17: bytes 401", v.drops(401, 0), -1);
         due("17: what 3", v.drops(0, 3), -1);
@@ -941,6 +975,11 @@ public final class PromisesTest {
         due("21: spoilt", fetch(v, 0, "a"), -4);
         due("21: tape is empty after -4", v.count(11), 0);
         due("21: others are not", fetch(v, 0, "a/b"), 1);
+        v.spoil(v.content(1, 2), '2');
+        v.spoil(v.content(0, 2), 0);
+        due("21: the first is spoilt", fetch(v, 0, "a"), -4);
+        v.spoil(v.content(0, 2), '1');
+        v.spoil(v.content(1, 2), 0);
         fill(v);
         due("21: twelve", v.count(0), 12);
         due("21: more than twelve", fetch(v, 1, "a/d"), -5);
@@ -1105,7 +1144,11 @@ public final class PromisesTest {
         due("27: tape is empty after -2", v.count(11), 0);
         due("27: no name", name(v, 1, "a/b"), -3);
         due("27: no name", name(v, 1, "aB"), -3);
+        due("27: no name", name(v, 1, "B"), -3);
+        due("27: no name", name(v, 1, "/"), -3);
         due("27: tape is empty after -3", v.count(11), 0);
+        tape(v, "x/");
+        due("27: what comes behind it is not looked at", v.name(1, 1), 1);
         due("27: -2 ahead of -3", name(v, 3, "aB"), -2);
         tape(v, "abcdefghijklm");
         due("27: q 13", v.name(0, 13), -1);
@@ -1275,7 +1318,7 @@ public final class PromisesTest {
         due("34: not whole", v.content(1, 9), 0);
         due("34: mark as told", v.content(1, 1), mark(b));
         // 40: 1 # 128 30 1 #
-        int[][] bad = {{40, 0}, {40, 7}, {43, 29}, {43, 31}, {43, 0}, {42, 139}, {42, 30}, {44, 200}, {44, 2}};
+        int[][] bad = {{40, 0}, {40, 7}, {43, 29}, {43, 31}, {43, 0}, {43, 40}, {42, 139}, {42, 30}, {44, 200}, {44, 2}};
         for (int[] one : bad) {
             int was = v.spoil(one[0], one[1]);
             due("34: can't be read with " + one[1] + " at " + one[0], v.content(1, 8), 0);
@@ -1284,6 +1327,15 @@ public final class PromisesTest {
             v.spoil(one[0], was);
             due("34: can be read again", v.content(1, 8), 1);
         }
+        EditionVault w = new EditionVault();
+        write(w, "a", LONG);
+        write(w, "b", b);
+        w.commit();
+        // 4 # 128 30 1 128, and behind it a byte that is not its own: so many would be 32 in all
+        w.spoil(40, 4);
+        w.spoil(45, 128);
+        w.spoil(46, 28);
+        due("34: no byte behind", w.content(1, 8), 0);
         v.spoil(42, 138);
         due("34: from another place", v.content(1, 8), 1);
         due("34: from another place", v.at(1, 1, true, 1), 'k');
@@ -1378,6 +1430,10 @@ public final class PromisesTest {
                 due("39: touched(" + k + ", " + what + ")", v.touched(k, what), want[k][what]);
             }
         }
+        v.spoil(v.content(4, 2), 0);
+        due("39: its place", v.touched(3, 1), 0);
+        due("39: its content", v.touched(3, 2), 4);
+        v.spoil(v.content(4, 2), 'O');
         due("39: not so many", v.touched(4, 0), -1);
         due("39: k -1", v.touched(-1, 0), -1);
         due("39: what 3", v.touched(0, 3), -1);
@@ -1403,10 +1459,31 @@ public final class PromisesTest {
         due("40: few digits", w.told(0, -1), 4 + 6);
         due("40: 7", w.told(0, 2), '7');
         due("40: 218", w.told(0, 8), '8');
+        for (int wanted : new int[] {0, 1, 9, 10, 99, 100, 999, 1000, 9999, 10000, 65520}) {
+            EditionVault y = new EditionVault();
+            write(y, "a", marked(wanted));
+            y.commit();
+            String digits = "a=" + wanted + ";";
+            due("40: digits of " + wanted, y.told(0, -1), digits.length());
+            for (int i = 0; i < digits.length(); i++) {
+                due("40: digit " + i + " of " + wanted, y.told(0, i), digits.charAt(i));
+            }
+        }
         EditionVault x = new EditionVault();
         x.commit();
         due("40: nothing", x.told(0, -1), 0);
         due("40: nothing", x.told(0, 0), -4);
+    }
+
+    /** Some bytes with this mark. */
+    private static String marked(int wanted) {
+        StringBuilder s = new StringBuilder("....");
+        for (int i = 0; mark(s.toString()) != wanted; i++) {
+            for (int k = 0; k < 4; k++) {
+                s.setCharAt(k, (char) ((i >> (6 * k)) & 63));
+            }
+        }
+        return s.toString();
     }
 
     private static void promise41() {

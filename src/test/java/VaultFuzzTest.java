@@ -31,7 +31,7 @@ public final class VaultFuzzTest {
 
     private VaultFuzzTest(long seed) {
         random = new Random(seed);
-        kind = (int) (seed % 4);
+        kind = (int) (seed % 6);
     }
 
     public static void main(String[] args) throws Exception {
@@ -114,6 +114,13 @@ public final class VaultFuzzTest {
 
     private String content() {
         StringBuilder s = new StringBuilder();
+        if (kind == 4 || (kind == 5 && random.nextInt(4) > 0)) {
+            // many small ones, so that all numbers are taken; or long ones, so that all room is
+            for (int n = kind == 4 ? 1 + random.nextInt(2) : 36 + random.nextInt(5); n > 0; n--) {
+                s.append((char) random.nextInt(256));
+            }
+            return s.toString();
+        }
         int alphabet = kind == 2 ? 200 : 1 + random.nextInt(4);
         if (random.nextInt(3) > 0) {
             s.append("abcdefghijklmnopqrstuvwxyz0123456789ABCD", 0, random.nextInt(41));
