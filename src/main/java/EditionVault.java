@@ -105,28 +105,14 @@ public final class EditionVault {
     }
 
     public int move(int p, int q) {
-        if (!hasTwoWords(p, q)) {
-            return NONE;
-        }
-        long from = tape.pathFrom(0, p);
-        long to = tape.pathFrom(p, q);
-        tape.clear();
-        if (from == NO_PATH || to == NO_PATH) {
-            return -2;
-        }
-        int moved = stage.filesWithin(from);
-        if (moved == 0) {
-            return -3;
-        }
-        // those that move leave their paths, so only those that stay can be in the way
-        if (!stage.canRename(from, to, from)) {
-            return -4;
-        }
-        stage.renameWithin(from, to);
-        return moved;
+        return carry(p, q, true);
     }
 
     public int copy(int p, int q) {
+        return carry(p, q, false);
+    }
+
+    private int carry(int p, int q, boolean isMove) {
         if (!hasTwoWords(p, q)) {
             return NONE;
         }
@@ -136,18 +122,23 @@ public final class EditionVault {
         if (from == NO_PATH || to == NO_PATH) {
             return -2;
         }
-        int copied = stage.filesWithin(from);
-        if (copied == 0) {
+        int carried = stage.filesWithin(from);
+        if (carried == 0) {
             return -3;
         }
-        if (!stage.canRename(from, to, NO_PATH)) {
+        // those that move leave their paths, so only those that stay can be in the way
+        if (!stage.canRename(from, to, isMove ? from : NO_PATH)) {
             return -4;
         }
-        if (stage.files + copied > MOST_FILES) {
+        if (isMove) {
+            stage.renameWithin(from, to);
+            return carried;
+        }
+        if (stage.files + carried > MOST_FILES) {
             return -5;
         }
         stage.doubleWithin(from, to);
-        return copied;
+        return carried;
     }
 
     private boolean hasTwoWords(int p, int q) {
@@ -834,7 +825,9 @@ public final class EditionVault {
 
         static int lengthOf(long path) {
             int length = 0;
-            while (length < MOST_SIGNS && signAt(path, length) != 0) {
+            long rest = path;
+            while (length < MOST_SIGNS && rest != 0) {
+                rest = (rest << 5) & (PATH_END - 1);
                 length++;
             }
             return length;
@@ -859,6 +852,27 @@ public final class EditionVault {
 
         static boolean isWithin(long path, long top) {
             return path == top || isAbove(top, path);
+        }
+
+        /** Its place among the first n of these, or NOTHING. */
+        static int placeIn(long[] paths, int n, long path) {
+            for (int i = 0; i < n && i < paths.length; i++) {
+                if (paths[i] == path) {
+                    return i;
+                }
+            }
+            return NOTHING;
+        }
+
+        /** How many of the first n are this path or below it. */
+        static int howManyWithin(long[] paths, int n, long top) {
+            int found = 0;
+            for (int i = 0; i < n && i < paths.length; i++) {
+                if (isWithin(paths[i], top)) {
+                    found++;
+                }
+            }
+            return found;
         }
 
         /** The path with another beginning; NO_PATH if it would be too long. */
@@ -972,22 +986,11 @@ public final class EditionVault {
         }
 
         int placeOf(long path) {
-            for (int i = 0; i < files; i++) {
-                if (paths[i] == path) {
-                    return i;
-                }
-            }
-            return NONE;
+            return Path.placeIn(paths, files, path);
         }
 
         int filesWithin(long path) {
-            int found = 0;
-            for (int i = 0; i < files; i++) {
-                if (Path.isWithin(paths[i], path)) {
-                    found++;
-                }
-            }
-            return found;
+            return Path.howManyWithin(paths, files, path);
         }
 
         /** Whether a file that is not within `aside` has this path, or one above or below it. */
@@ -1127,12 +1130,7 @@ public final class EditionVault {
         }
 
         int placeOf(long path) {
-            for (int i = 0; i < files; i++) {
-                if (paths[i] == path) {
-                    return i;
-                }
-            }
-            return NOTHING;
+            return Path.placeIn(paths, files, path);
         }
 
         int contentAt(long path) {
@@ -1141,13 +1139,7 @@ public final class EditionVault {
         }
 
         int filesWithin(long path) {
-            int found = 0;
-            for (int i = 0; i < files; i++) {
-                if (Path.isWithin(paths[i], path)) {
-                    found++;
-                }
-            }
-            return found;
+            return Path.howManyWithin(paths, files, path);
         }
 
         long pathBehind(long path) {

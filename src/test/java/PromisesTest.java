@@ -423,6 +423,7 @@ public final class PromisesTest {
         write(v, "y", "poiuytrewq0987654321");
         due("7: just room", v.commit(), 1);
         due("7: full", v.count(7), 0);
+        due("19: just room anew", v.thrift(), 400);
         write(v, "z", "");
         due("7: nothing needs no room", v.commit(), 2);
         EditionVault u = new EditionVault();
@@ -551,6 +552,27 @@ public final class PromisesTest {
         due("9: common none", v.common(1, 2), -2);
         due("9: out of nothing", v.join(1, 2), 0);
         dueFiles("9: out of nothing", v, -1, "b=22 c=33 d=4 e=5");
+        EditionVault x = new EditionVault();
+        for (String a : new String[] {"zero", "one", "zero", "three"}) {
+            x.rebuild(Math.min(1, x.count(4) - 1));
+            write(x, "a", a);
+            x.commit();
+        }
+        due("9: content 0 is one, too", x.join(2, 3), 1);
+        dueFiles("9: content 0 is one, too", x, -1, "a=zero");
+        x.rebuild(3);
+        remove(x, "a");
+        write(x, "a/b", "zero");
+        x.commit();
+        due("9: gone in one, so not above", x.join(3, 4), 0);
+        dueFiles("9: gone in one, so not above", x, -1, "a/b=zero");
+        write(x, "b", "b");
+        x.commit();
+        x.rebuild(4);
+        write(x, "b/c", "zero");
+        x.commit();
+        due("9: left out though content 0", x.join(5, 6), 1);
+        dueFiles("9: left out though content 0", x, -1, "a/b=zero b=b");
         EditionVault w = new EditionVault();
         w.commit();
         for (int i = 0; i < 7; i++) {
@@ -1396,6 +1418,18 @@ public final class PromisesTest {
         due("37: no such one", v.change(0, 4, -1, 0), -1);
         due("37: no such one", v.change(4, 0, -1, 0), -1);
         due("37: the same", v.change(1, 1, -1, 0), 0);
+        EditionVault w = new EditionVault();
+        for (int i = 0; i < 12; i++) {
+            write(w, "" + (char) ('a' + i), "");
+        }
+        w.commit();
+        for (int i = 0; i < 12; i++) {
+            move(w, "" + (char) ('a' + i), "" + (char) ('m' + i));
+        }
+        w.commit();
+        due("37: all paths of both", w.change(0, 1, -1, 0), 24);
+        due("37: the last", w.change(0, 1, 23, 2), 11);
+        due("37: moved, the first with its content", w.change(0, 1, 23, 3), 0);
         v.rebuild(0);
         copy(v, "a", "c");
         v.commit();
