@@ -244,7 +244,7 @@ public final class BoundaryTest extends VaultCalls {
         int[][] cannot = {{128, 32, 128, 0, 128, 0}, {128, 0, 128, 0, 128, 32}, {0, 0, 0, 0, 128, 32},
             {128, 32, 0, 0, 0, 0}, {128, 28, 4, 'x', 'y', 'z'}, {1, '#', 139, 30, 1, '#'}, {168, 1, 128, 30, 1, '#'},
             {255, 1, 128, 30, 1, '#'}, {1, '#', 127, 30, 1, '#'}, {127, 30, 0, 0, 0, 0}, {1, '#', 128, 29, 1, '#'},
-            {1, '#', 128, 31, 1, '#'}, {128, 30, 2, 'x', 'y', 1}, {128, 30, 2, 'x', 'y', 128},
+            {1, '#', 128, 31, 1, '#'}, {128, 30, 2, 'x', 'y', 1}, {128, 30, 2, 'x', 'y', 128}, {4, 'a', 'b', 'c', 'd', 128},
             {128, 255, 128, 30, 1, '#'}, {128, 41, 128, 30, 1, '#'}, {5, 0, 0, 0, 0, 0}};
         for (int i = 0; i < cannot.length; i++) {
             due("it can't be READ, " + i, readable(cannot[i]), 0);
@@ -462,6 +462,13 @@ public final class BoundaryTest extends VaultCalls {
         }
         due("4: all twelve", remove(v, "a"), 12);
         due("4: none is left", v.count(0), 0);
+        due("4: none at all then", remove(v, "a"), -3);
+        for (int i = 11; i >= 0; i--) {
+            EditionVault w = staged(12).make();
+            due("4: it goes, " + i, remove(w, letter(i)), 1);
+            due("4: it went, " + i, remove(w, letter(i)), -3);
+            due("4: eleven are left, " + i, w.count(0), 11);
+        }
     }
 
     private static void promise5() {
@@ -477,12 +484,15 @@ public final class BoundaryTest extends VaultCalls {
         refusedTapeGone("5: -2 ahead of -3, the other", some.with("cd/"), v -> v.move(1, 2), -2);
         refusedTapeGone("5: there are none", some.with("cd"), v -> v.move(1, 1), -3);
         refusedTapeGone("5: there are none at all", NEW.with("aa"), v -> v.move(1, 1), -3);
+        refusedTapeGone("5: the one that was there went", staged(2).then(v -> remove(v, "b")).with("bc"), v -> v.move(1, 1), -3);
         refusedTapeGone("5: none though it begins one", some.with("a/cca"), v -> v.move(4, 1), -3);
         refusedTapeGone("5: -3 ahead of -4", some.with("cb"), v -> v.move(1, 1), -3);
         refusedTapeGone("5: one would be too long", some.with("aabcdefghi"), v -> v.move(1, 9), -4);
         taken("5: just not too long", some.with("aabcdefgh"), v -> v.move(1, 8), 2);
         taken("5: just not too long, one alone", some.with("babcdefghijkl"), v -> v.move(1, 12), 1);
         refusedTapeGone("5: a PATH that is there", some.with("abb"), v -> v.move(2, 1), -4);
+        refusedTapeGone("5: the first FILE's would be there", staged(2).with("ab"), v -> v.move(1, 1), -4);
+        refusedTapeGone("5: the last FILE's would be there", staged(2).with("ba"), v -> v.move(1, 1), -4);
         refusedTapeGone("5: ABOVE another one", some.with("aba/c"), v -> v.move(2, 3), -4);
         refusedTapeGone("5: ABOVE two others", some.with("aba"), v -> v.move(2, 1), -4);
         refusedTapeGone("5: below another one", some.with("abb/x"), v -> v.move(2, 3), -4);
@@ -535,6 +545,7 @@ public final class BoundaryTest extends VaultCalls {
         }
         refusedTapeGone("6: -2 ahead of -3", some.with("cd/"), v -> v.copy(1, 2), -2);
         refusedTapeGone("6: there are none", some.with("cd"), v -> v.copy(1, 1), -3);
+        refusedTapeGone("6: the one that was there went", staged(2).then(v -> remove(v, "b")).with("bc"), v -> v.copy(1, 1), -3);
         refusedTapeGone("6: -3 ahead of -4", some.with("cb"), v -> v.copy(1, 1), -3);
         refusedTapeGone("6: -3 ahead of -4, alike", some.with("cc"), v -> v.copy(1, 1), -3);
         refusedTapeGone("6: one would be too long", some.with("aabcdefghi"), v -> v.copy(1, 9), -4);
@@ -542,6 +553,7 @@ public final class BoundaryTest extends VaultCalls {
         refusedTapeGone("6: alike", some.with("bb"), v -> v.copy(1, 1), -4);
         refusedTapeGone("6: alike, all below it", some.with("aa"), v -> v.copy(1, 1), -4);
         refusedTapeGone("6: a PATH that is there", some.with("abb"), v -> v.copy(2, 1), -4);
+        refusedTapeGone("6: the first FILE's would be there", staged(2).with("ab"), v -> v.copy(1, 1), -4);
         refusedTapeGone("6: ABOVE others", some.with("aba"), v -> v.copy(2, 1), -4);
         refusedTapeGone("6: below another one", some.with("abb/x"), v -> v.copy(2, 3), -4);
         refusedTapeGone("6: below itself", some.with("bb/x"), v -> v.copy(1, 3), -4);
@@ -587,6 +599,9 @@ public final class BoundaryTest extends VaultCalls {
         taken("7: not WHOLE", FORKED.then(v -> v.spoil(v.content(4, 2), 0)), EditionVault::commit, 3);
         taken("7: not WHOLE, the last one", FORKED.then(v -> v.spoil(v.content(1, 2), 0)), EditionVault::commit, 3);
         taken("7: ALSO OF one", FORKED.then(v -> v.join(2, 2)), EditionVault::commit, 3);
+        taken("7: THE STAGE is OF it then", FORKED.then(v -> v.join(1, 2)).then(EditionVault::commit), v -> v.count(1), 3);
+        taken("7: THE STAGE is ALSO OF none then", FORKED.then(v -> v.join(1, 2)).then(EditionVault::commit), v -> v.count(2), -2);
+        refused("7: so it is the same", FORKED.then(v -> v.join(1, 2)).then(EditionVault::commit), EditionVault::commit, -2);
         refused("7: the same as it was made anew", FORKED.written("a", "x").written("a", "ONE1234"), EditionVault::commit, -2);
         taken("7: the tenth", editions(9).written("x", "!"), EditionVault::commit, 9);
         refused("7: there are 10", editions(10).written("x", "!"), EditionVault::commit, -3);
@@ -628,6 +643,16 @@ public final class BoundaryTest extends VaultCalls {
         // the first of two is kept when the second finds no room: the free byte is as it was
         Start free = nineAnd(39).then(v -> v.spoil(399, 77));
         refused("7: all stays", free.written("k", "!").written("l", "?"), EditionVault::commit, -4);
+        Start eleven = NEW.then(v -> {
+            for (int i = 0; i < 11; i++) {
+                write(v, letter(i), stepped(3 + 2 * i, 40));
+            }
+            return v.spoil(0, 77);
+        });
+        refused("7: all stays, from the first byte on", eleven, EditionVault::commit, -4);
+        taken("7: no CONTENT came", eleven.then(EditionVault::commit), v -> v.count(5), 0);
+        taken("7: the least number is free", eleven.then(EditionVault::commit).then(v -> remove(v, "a")).then(EditionVault::commit),
+            v -> v.file(0, 0, 2), 0);
         refused("7: all stays, by number, too", fortyLess(1).then(v -> v.spoil(399, 7)).written("y", "~~").written("z", "??"),
             EditionVault::commit, -4);
         taken("7: the fortieth", fortyLess(1).written("z", "~~"), EditionVault::commit, 4);
@@ -680,6 +705,8 @@ public final class BoundaryTest extends VaultCalls {
         refused("8: it was dropped", FORKED.then(v -> v.drop(1)), v -> v.rebuild(1), -2);
         taken("8: the first", FORKED, v -> v.rebuild(0), 2);
         taken("8: the last", FORKED, v -> v.rebuild(2), 2);
+        taken("8: OF it", FORKED.then(v -> v.join(1, 2)).then(v -> v.rebuild(0)), v -> v.count(1), 0);
+        taken("8: ALSO OF none", FORKED.then(v -> v.join(1, 2)).then(v -> v.rebuild(0)), v -> v.count(2), -2);
         taken("8: no FILES", NEW.then(EditionVault::commit).written("a", "b"), v -> v.rebuild(0), 0);
         taken("8: no FILES are left", NEW.then(EditionVault::commit).written("a", "b").then(v -> v.rebuild(0)), v -> v.count(0), 0);
         taken("8: twelve FILES", staged(12).then(EditionVault::commit).then(v -> remove(v, "c")), v -> v.rebuild(0), 12);
@@ -806,6 +833,41 @@ public final class BoundaryTest extends VaultCalls {
         dueFiles("9: left out, too", v, -1, "b=file");
     }
 
+    private static void promise9Many() {
+        // 12 paths of both that are gone in both, 12 of a, and 12 of b below these
+        Start all = below(12).then(EditionVault::commit).then(v -> {
+            remove(v, "a");
+            for (int i = 1; i < 13; i++) {
+                write(v, letter(i), "");
+            }
+            v.commit();
+            v.rebuild(0);
+            remove(v, "a");
+            for (int i = 1; i < 13; i++) {
+                write(v, letter(i) + "/z", "!");
+            }
+            return v.commit();
+        });
+        taken("9: all 36 PATHS", all, v -> v.join(1, 2), 12);
+        taken("9: a's", all.then(v -> v.join(1, 2)), v -> v.count(0), 12);
+        taken("9: the last of a's", all.then(v -> v.join(1, 2)), v -> v.file(-1, 11, 0), 1);
+        taken("9: the other way", all, v -> v.join(2, 1), 12);
+        taken("9: that one is ahead, too", all.then(v -> v.join(2, 1)), v -> v.file(-1, 11, 1), 0);
+        // content 0 is one like others: x where it is a's, no none
+        Start zero = editions(2).then(v -> v.rebuild(1)).written("x", "a").then(EditionVault::commit).then(v -> v.rebuild(1))
+            .written("x", "z").then(EditionVault::commit);
+        taken("9: x is CONTENT 0", zero, v -> v.join(2, 3), 1);
+        taken("9: x comes", zero.then(v -> v.join(2, 3)), v -> v.at(-1, 0, true, 0), 'a');
+        taken("9: y is CONTENT 0", zero, v -> v.join(3, 2), 1);
+        taken("9: x comes, too", zero.then(v -> v.join(3, 2)), v -> v.at(-1, 0, true, 0), 'z');
+        Start under = editions(1).written("y", "!").then(EditionVault::commit).then(v -> v.rebuild(0)).written("y/a", "a")
+            .then(EditionVault::commit);
+        taken("9: CONTENT 0 is left out", under, v -> v.join(1, 2), 1);
+        taken("9: CONTENT 0 is left out, FILES", under.then(v -> v.join(1, 2)), v -> v.count(0), 2);
+        taken("9: what an earlier join had is not in the way", under.then(v -> v.join(2, 2)), v -> v.join(1, 1), 0);
+        taken("9: all of it is there", under.then(v -> v.join(2, 2)).then(v -> v.join(1, 1)), v -> v.count(0), 2);
+    }
+
     /** "p" with these bytes, or without it. */
     private static void put(EditionVault v, String bytes) {
         if (bytes.isEmpty()) {
@@ -837,6 +899,23 @@ public final class BoundaryTest extends VaultCalls {
         due("10: what was OF it, none", w.of(2, 0), -2);
         due("10: the stage's own", w.drop(2), 1);
         due("10: the stage, none", w.count(1), -2);
+        EditionVault x = FORKED.then(y -> y.join(1, 2)).then(EditionVault::commit).then(y -> y.join(1, 2)).make();
+        due("10: another one", x.drop(0), 0);
+        due("10: the stage is OF that still", x.count(1), 1);
+        due("10: the stage is ALSO OF that still", x.count(2), 2);
+        due("10: what was OF none", x.of(1, 0), -2);
+        due("10: the one that it was ALSO OF", x.drop(2), 1);
+        due("10: what was ALSO OF it, none", x.of(3, 1), -2);
+        due("10: the stage, ALSO OF none", x.count(2), -2);
+        due("10: the stage, OF", x.count(1), 1);
+        EditionVault z = FORKED.then(y -> y.join(1, 2)).then(EditionVault::commit).then(y -> y.join(1, 2)).make();
+        z.drop(2);
+        due("10: what was ALSO OF it", z.of(3, 1), 0);
+        due("10: the stage, ALSO OF", z.count(2), 0);
+        due("10: OF stays", z.of(3, 0), 1);
+        z.drop(1);
+        due("10: what was OF it, ALSO OF stays", z.of(3, 0), 0);
+        due("10: the stage, what was OF it", z.count(1), 0);
     }
 
     private static void promise11() {
@@ -849,6 +928,12 @@ public final class BoundaryTest extends VaultCalls {
         due("11: a hole of one byte ahead of all", v.pack(), 41);
         due("11: PLACE", v.content(1, 2), 0);
         due("11: PLACE behind it", v.content(2, 2), 39);
+        for (int k = 0; k < 39; k++) {
+            due("11: byte " + k, v.row(k), 3 + 3 * k);
+            due("11: owner " + k, v.owner(k), 1);
+        }
+        due("11: the first byte behind it", v.row(39), '?');
+        due("11: its owner", v.owner(39), 2);
         due("11: the last byte", v.row(40), '?');
         due("11: what was the last byte is 0", v.row(41), 0);
         due("11: and free", v.owner(41), -2);
@@ -860,6 +945,10 @@ public final class BoundaryTest extends VaultCalls {
         due("11: the one ahead of it stays", w.pack(), 2);
         due("11: the one ahead of it", w.content(0, 2), 0);
         due("11: the one behind it", w.content(2, 2), 1);
+        dueRow("11: all bytes", w, 0, '#', '?', '?', 0);
+        for (int k = 0; k < 4; k++) {
+            due("11: owner of " + k, w.owner(k), k == 0 ? 0 : k < 3 ? 2 : -2);
+        }
         EditionVault free = NEW.then(x -> x.spoil(0, 5)).then(x -> x.spoil(399, 6)).make();
         due("11: nothing has another PLACE", free.pack(), 0);
         due("11: free bytes are 0, the first", free.row(0), 0);
@@ -945,10 +1034,7 @@ public final class BoundaryTest extends VaultCalls {
         taken("14: all but the last", all.then(v -> remove(v, "d")), EditionVault::cure, 3);
         taken("14: all but the last, it alone is SPOILT", all.then(v -> remove(v, "d")).then(EditionVault::cure), v -> v.count(8), 1);
         // number 0 is by 1: the first time its base is spoilt
-        Start greater = NEW.written("a", "1").then(EditionVault::commit).written("b", LONG).then(EditionVault::commit)
-            .then(v -> remove(v, "a")).then(EditionVault::commit).then(v -> v.drop(0)).then(v -> v.drop(1))
-            .written("c", "-" + LONG.substring(5)).then(EditionVault::commit)
-            .then(v -> v.spoil(v.content(0, 2), 9)).then(v -> v.spoil(v.content(1, 2), 9));
+        Start greater = zeroByOne().then(v -> v.spoil(v.content(0, 2), 9)).then(v -> v.spoil(v.content(1, 2), 9));
         taken("14: by one of a greater number", greater, v -> v.content(0, 4), 1);
         taken("14: again, till none is", greater, EditionVault::cure, 2);
         // of two files with the length and mark the first is another one
@@ -962,6 +1048,13 @@ public final class BoundaryTest extends VaultCalls {
         write(v, "c", "abcdefgh");
         due("14: a FILE whose PIECES take other room", v.cure(), 1);
         due("14: the next one", v.at(0, 1, true, 6), 'x');
+    }
+
+    /** Content 0 came behind 1, by which it is. */
+    private static Start zeroByOne() {
+        return NEW.written("a", "1").then(EditionVault::commit).written("b", LONG).then(EditionVault::commit)
+            .then(v -> remove(v, "a")).then(EditionVault::commit).then(v -> v.drop(0)).then(v -> v.drop(1))
+            .written("c", "-" + LONG.substring(5)).then(EditionVault::commit);
     }
 
     private static void promise15() {
@@ -983,8 +1076,16 @@ public final class BoundaryTest extends VaultCalls {
         taken("15: a BASE that no LIST has", based, v -> v.risk(0, 0), 4);
         taken("15: a BASE that no LIST has, PATHS", based, v -> v.risk(0, 1), 3);
         taken("15: a full ROW, the last byte", nineAnd(40), v -> v.risk(399, 0), 1);
+        taken("15: on the BASE of CONTENT 0", zeroByOne(), v -> v.risk(v.content(1, 2), 0), 2);
+        taken("15: on the BASE of CONTENT 0, PATHS", zeroByOne(), v -> v.risk(v.content(1, 2), 1), 3);
+        taken("15: on CONTENT 0", zeroByOne(), v -> v.risk(v.content(0, 2), 0), 1);
         taken("15: two PATHS of one LIST", NEW.written("a", "!").written("b", "!").then(EditionVault::commit), v -> v.risk(0, 1), 2);
         taken("15: all 120 PATHS", hundredAndTwenty(), v -> v.risk(39, 1), 120);
+        EditionVault twice = hundredAndTwenty().make();
+        due("15: all of ten", twice.risk(0, 1), 120);
+        twice.drop(9);
+        due("15: all of nine", twice.risk(0, 1), 108);
+        due("15: all of nine, CONTENTS", twice.risk(0, 0), 1);
         taken("15: all 40 CONTENTS", fortyByOne(), v -> v.risk(0, 0), 40);
     }
 
@@ -1122,6 +1223,9 @@ public final class BoundaryTest extends VaultCalls {
         taken("19: a BASE that no LIST has is none of them", based, EditionVault::thrift, 32 + 4 + 4);
         taken("19: it is SPOILT", based.then(v -> v.spoil(39, 0)), EditionVault::thrift, 32 + 4 + 4);
         taken("19: as it is", CHAINED, EditionVault::thrift, 54);
+        String e = "#" + LONG.substring(0, 30) + "#+-!";
+        taken("19: a DEPTH of 3 at most", CHAINED.written("e", e).then(EditionVault::commit), EditionVault::thrift, 54 + 5);
+        taken("19: by one of a DEPTH of 2", CHAINED.written("e", e).then(EditionVault::commit), v -> v.content(4, 4), 2);
         taken("19: forty", fortyByOne(), EditionVault::thrift, 31 + 39 * 4);
     }
 
@@ -1193,6 +1297,16 @@ public final class BoundaryTest extends VaultCalls {
         due("21: in order", v.at(-1, 2, false, 2), 'c');
         due("21: its BYTES", v.at(-1, 2, true, 0), 'c');
         due("21: THE STAGE is still OF it", v.count(1), 0);
+        EditionVault w = FORKED.written("b/d", "!").written("b/a/a", "?").written("bb", "").make();
+        due("21: one comes, three go", fetch(w, 1, "b"), 1);
+        dueFiles("21: one comes, three go", w, -1, "a=ONE1234 b/c=TWO?? bb=");
+        due("21: the first comes", fetch(w, 1, "a"), 1);
+        dueFiles("21: the first comes", w, -1, "a=one b/c=TWO?? bb=");
+        due("21: the last comes", fetch(w, 1, "d"), 1);
+        dueFiles("21: the last comes", w, -1, "a=one b/c=TWO?? bb= d=four44");
+        Start one = below(1).then(EditionVault::commit).then(x -> remove(x, "a")).written("a", "");
+        refusedTapeGone("21: the only one would be below another one", one.with("a/a"), x -> x.fetch(0, 3), -5);
+        taken("21: 0 of it, CONTENT", one.with("a"), x -> x.fetch(0, 1), 1);
     }
 
     /** So many files below "a", each with its letter as its bytes. */
@@ -1273,6 +1387,8 @@ public final class BoundaryTest extends VaultCalls {
         taken("23: CONTENTS by a BASE, 39", fortyByOne(), v -> v.count(12), 39);
         taken("23: the greatest DEPTH, 3", CHAINED, v -> v.count(13), 3);
         taken("23: the greatest DEPTH, 1", fortyByOne(), v -> v.count(13), 1);
+        taken("23: CONTENT 0 by a BASE", zeroByOne(), v -> v.count(12), 1);
+        taken("23: the DEPTH of CONTENT 0", zeroByOne(), v -> v.count(13), 1);
         taken("23: CONFLICTS, 12", unrelated().then(v -> v.join(1, 2)), v -> v.count(14), 12);
         taken("23: OF 0", editions(1), v -> v.count(1), 0);
         taken("23: ALSO OF 0", editions(1).then(v -> v.join(0, 0)), v -> v.count(2), 0);
@@ -1383,6 +1499,8 @@ public final class BoundaryTest extends VaultCalls {
         taken("27: the beginning of another one's", named.with("abcdefghijkl"), v -> v.name(0, 11), 11);
         taken("27: its own", named.with("abcdefghijkl"), v -> v.name(1, 12), 12);
         taken("27: a and z", named.with("az"), v -> v.name(0, 2), 2);
+        taken("27: what is behind it is not looked at", named.with("z/"), v -> v.name(0, 1), 1);
+        taken("27: nor ahead of 0", named.with("/"), v -> v.name(0, 0), 0);
         taken("27: none", named.with("zz"), v -> v.name(1, 0), 0);
         taken("27: none, the tape is empty", named.with("zz").then(v -> v.name(1, 0)), v -> v.count(11), 0);
         taken("27: none, no tape", named, v -> v.name(1, 0), 0);
@@ -1391,6 +1509,10 @@ public final class BoundaryTest extends VaultCalls {
         taken("27: free again", named.then(v -> v.name(1, 0)).with("abcdefghijkl"), v -> v.name(0, 12), 12);
         taken("27: free by a DROP", named.then(v -> v.drop(1)).with("abcdefghijkl"), v -> v.name(0, 12), 12);
         taken("27: in its place", named.then(v -> name(v, 1, "z")).with("abcdefghijkl"), v -> v.name(0, 12), 12);
+        taken("27: a new EDITION has none", FORKED.then(v -> name(v, 2, "z")).then(v -> v.drop(2)).written("a", "")
+            .then(EditionVault::commit), v -> v.of(3, 8), 0);
+        refusedTapeGone("27: the first one has it", FORKED.then(v -> name(v, 0, "z")).with("z"), v -> v.name(2, 1), -4);
+        refusedTapeGone("27: the last one has it", FORKED.then(v -> name(v, 2, "z")).with("z"), v -> v.name(0, 1), -4);
     }
 
     private static void promise28() {
@@ -1403,6 +1525,7 @@ public final class BoundaryTest extends VaultCalls {
         refused("28: no NAMES", FORKED.with("a"), v -> v.named(1), -2);
         refused("28: no NAMES, no NAME", FORKED.with("/"), v -> v.named(1), -2);
         taken("28: one byte", named.with("zz"), v -> v.named(1), 2);
+        taken("28: the first EDITION", FORKED.then(v -> name(v, 0, "z")).with("z"), v -> v.named(1), 0);
         taken("28: twelve bytes", named.with("abcdefghijkl"), v -> v.named(12), 1);
         taken("28: the tape stays", named.with("abcdefghijkl").then(v -> v.named(12)), v -> v.count(11), 20);
         refused("28: it went", named.then(v -> v.drop(2)).with("z"), v -> v.named(1), -2);
@@ -1575,6 +1698,7 @@ public final class BoundaryTest extends VaultCalls {
         taken("34: number 39", fortyByOne(), v -> v.content(39, 3), 4);
         taken("34: BASE 0", fortyByOne(), v -> v.content(39, 4), 0);
         taken("34: the BASE of 39", fortyByOne(), v -> v.content(0, 7), 39);
+        taken("34: the BASE of 0", zeroByOne(), v -> v.content(1, 7), 1);
         taken("34: in 120 PATHS", hundredAndTwenty(), v -> v.content(0, 6), 120);
         taken("34: in none", CHAINED.then(v -> remove(v, "a")).then(EditionVault::commit).then(v -> v.thin(1)), v -> v.content(0, 6), 0);
         taken("34: no BYTES", NEW.written("a", "").then(EditionVault::commit), v -> v.content(0, 0), 0);
@@ -1623,6 +1747,18 @@ public final class BoundaryTest extends VaultCalls {
             }
         }
         taken("37: how many", FORKED, v -> v.change(0, 1, -1, 0), 2);
+        EditionVault u = forked();
+        int[][][] of = {{{2, 1, 1, -2}, {0, -2, 2, -2}}, {{2, 1, 1, -2}, {1, 2, -2, -2}}, {{2, 1, 1, -2}, {0, -2, 2, -2}}};
+        for (int i = 0; i < of.length; i++) {
+            due("37: how many, time " + i, u.change(i % 2, 1 - i % 2, -1, 0), 2);
+            for (int k = 0; k < 2; k++) {
+                for (int what = 0; what < 4; what++) {
+                    due("37: time " + i + ", k " + k + ", what " + what, u.change(i % 2, 1 - i % 2, k, what), of[i][k][what]);
+                }
+            }
+        }
+        taken("37: another CONTENT, 0", editions(2).written("x", "a").then(EditionVault::commit), v -> v.change(1, 2, 0, 0), 2);
+        taken("37: another CONTENT, it was 0", editions(2), v -> v.change(0, 1, 0, 0), 2);
         taken("37: none", FORKED, v -> v.change(2, 2, -1, 0), 0);
         refused("37: none, the first", FORKED, v -> v.change(2, 2, 0, 0), NONE);
         taken("37: nothing in both", NEW.then(EditionVault::commit), v -> v.change(0, 0, -1, 0), 0);
@@ -1634,10 +1770,10 @@ public final class BoundaryTest extends VaultCalls {
         });
         taken("37: 24", all, v -> v.change(0, 1, -1, 0), 24);
         int[][] want = {{1, 0, -2, -2}, {1, 11, -2, -2}, {0, -2, 0, 0}, {0, -2, 11, 11}};
-        int[] of = {0, 11, 12, 23};
-        for (int i = 0; i < of.length; i++) {
+        int[] some = {0, 11, 12, 23};
+        for (int i = 0; i < some.length; i++) {
             for (int what = 0; what < 4; what++) {
-                int k = of[i];
+                int k = some[i];
                 int w = what;
                 taken("37: of 24 number " + k + ", what " + w, all, v -> v.change(0, 1, k, w), want[i][w]);
             }
@@ -1784,6 +1920,7 @@ public final class BoundaryTest extends VaultCalls {
         promise8();
         promise9();
         promise9Settled();
+        promise9Many();
         promise10();
         promise11();
         promise12();
