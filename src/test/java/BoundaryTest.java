@@ -1,5 +1,6 @@
 import java.util.ArrayList;
 import java.util.List;
+import java.util.function.IntFunction;
 
 /**
  * Each sentence of the document that names a boundary: the last value that is taken and the first
@@ -178,7 +179,7 @@ public final class BoundaryTest extends VaultCalls {
     }
 
     /** What takes a word of the tape's first bytes: 1 to 12 are a word, the tape has to have them. */
-    private static void wordsRefused(String what, Start start, java.util.function.IntFunction<Call> call) {
+    private static void wordsRefused(String what, Start start, IntFunction<Call> call) {
         for (int p : NO_WORDS) {
             refused(what + ": " + p + " bytes", start.with("zbcdefghijklmnopqrst"), call.apply(p), NONE);
         }
@@ -949,6 +950,11 @@ public final class BoundaryTest extends VaultCalls {
         for (int k = 0; k < 4; k++) {
             due("11: owner of " + k, w.owner(k), k == 0 ? 0 : k < 3 ? 2 : -2);
         }
+        Start end = nineAnd(40).then(x -> remove(x, "a")).then(EditionVault::commit).then(x -> x.drop(0));
+        taken("11: up to the last byte", end, EditionVault::pack, 360);
+        taken("11: the last byte moves", end.then(EditionVault::pack), x -> x.row(359), stepped(21, 40).charAt(39));
+        taken("11: behind it", end.then(EditionVault::pack), x -> x.row(360), 0);
+        taken("11: the longest run of free bytes", end.then(EditionVault::pack), x -> x.count(7), 40);
         EditionVault free = NEW.then(x -> x.spoil(0, 5)).then(x -> x.spoil(399, 6)).make();
         due("11: nothing has another PLACE", free.pack(), 0);
         due("11: free bytes are 0, the first", free.row(0), 0);
