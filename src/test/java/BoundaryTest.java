@@ -220,6 +220,53 @@ public final class BoundaryTest extends VaultCalls {
         taken("not ABOVE: a/b/b", deep.with("a/b/b"), w -> w.write(5, 1), 2);
     }
 
+    /** Of twelve signs, with nothing between them in order; and one of eleven that they begin with. */
+    private static void longNeighbours() {
+        String eleven = "abcdefghijk";
+        String a = eleven + "a";
+        String b = eleven + "b";
+        Start two = NEW.written(b, "B").written(a, "A");
+        taken("neighbours: in order, the first", two, v -> v.at(-1, 0, false, 11), 'a');
+        taken("neighbours: in order, the second", two, v -> v.at(-1, 1, false, 11), 'b');
+        Start one = NEW.written(b, "B").then(EditionVault::commit).written(a, "A").then(EditionVault::commit);
+        taken("neighbours: a CHANGE, the first", one, v -> v.change(0, 1, -1, 0), 1);
+        taken("neighbours: its place", one, v -> v.change(0, 1, 0, 2), 0);
+        Start other = NEW.written(a, "A").then(EditionVault::commit).written(b, "B").then(EditionVault::commit);
+        taken("neighbours: a CHANGE, the second", other, v -> v.change(0, 1, -1, 0), 1);
+        taken("neighbours: its place in b", other, v -> v.change(0, 1, 0, 2), 1);
+        taken("neighbours: gone", other, v -> v.change(1, 0, 0, 0), 1);
+        taken("neighbours: back, the same", other.then(v -> v.rebuild(0)), v -> v.join(0, 1) + v.count(0), 2);
+        Start apart = NEW.then(EditionVault::commit).written(a, "A").then(EditionVault::commit).then(v -> v.rebuild(0))
+            .written(b, "B").then(EditionVault::commit);
+        dueFiles("neighbours: JOINED", apart.then(v -> v.join(1, 2)).make(), -1, a + "=A " + b + "=B");
+        dueFiles("neighbours: JOINED, the other way", apart.then(v -> v.join(2, 1)).make(), -1, a + "=A " + b + "=B");
+        Start both = apart.then(v -> v.join(1, 2)).then(EditionVault::commit);
+        dueFiles("neighbours: gone from one", both.then(v -> remove(v, b)).then(EditionVault::commit).then(v -> v.join(3, 4)).make(),
+            -1, a + "=A");
+        notBelow(eleven, a);
+    }
+
+    private static void notBelow(String eleven, String a) {
+        Start two = NEW.written(eleven, "11").written(a, "A");
+        taken("a sign more: not below", two, v -> v.count(0), 2);
+        taken("a sign less: not ABOVE", NEW.written(a, "A").written(eleven, "11"), v -> v.count(0), 2);
+        taken("a sign more: it stays", two, v -> remove(v, eleven), 1);
+        taken("a sign more: it is not moved", two, v -> move(v, eleven, "b"), 1);
+        taken("a sign more: not in the way", two, v -> copy(v, eleven, "b"), 1);
+        taken("a sign more: another moves there", NEW.written(eleven, "11").written("b", "A"), v -> move(v, "b", a), 1);
+        taken("a sign less: another moves there", NEW.written(a, "A").written("b", "11"), v -> move(v, "b", eleven), 1);
+        Start kept = two.then(EditionVault::commit);
+        taken("a sign more: it is not fetched", kept, v -> fetch(v, 0, eleven), 1);
+        taken("a sign more: it is fetched beside", kept.then(v -> remove(v, a)), v -> fetch(v, 0, a), 1);
+        taken("a sign less: it is fetched beside", kept.then(v -> remove(v, eleven)), v -> fetch(v, 0, eleven), 1);
+        taken("a sign more: its BYTES", kept, v -> weigh(v, 0, eleven), 2);
+        Start apart = NEW.then(EditionVault::commit).written(eleven, "11").then(EditionVault::commit).then(v -> v.rebuild(0))
+            .written(a, "A").then(EditionVault::commit);
+        taken("a sign more: no CONFLICT", apart, v -> v.join(1, 2), 0);
+        taken("a sign less: no CONFLICT", apart, v -> v.join(2, 1), 0);
+        taken("a sign more: both come", apart.then(v -> v.join(1, 2)), v -> v.count(0), 2);
+    }
+
     private static void marks() {
         String[] bytes = {"", "\0", "\u00ff", "\0\0\0", "\u00ff\u00ff", "\u00ff\u00ff\u00ff", marked(65520), marked(0), marked(1)};
         int[] want = {7, 218, 473, 12967, 14919, 4098, 65520, 0, 1};
@@ -266,6 +313,27 @@ public final class BoundaryTest extends VaultCalls {
         v.spoil(29, 0);
         due("its MARK is not as told", v.content(1, 8), 1);
         due("its MARK is not as told, SPOILT", v.content(1, 9), 0);
+        readingTooMany();
+    }
+
+    /** Of 40 bytes, the most that can be: 1 '#' 128 39 at 40 to 43. */
+    private static void readingTooMany() {
+        int[][] cannot = {{1, '#', 128, 40}, {128, 40, 128, 1}, {128, 40, 128, 40}, {2, 'x', 'y', 128}, {3, 'x', 'y', 'z'}};
+        for (int i = 0; i < cannot.length; i++) {
+            EditionVault v = new EditionVault();
+            write(v, "a", LONG);
+            write(v, "b", "#" + LONG.substring(0, 39));
+            v.commit();
+            due("40 bytes: the PIECES' last one", v.row(43), 39);
+            for (int k = 0; k < 4; k++) {
+                v.spoil(40 + k, cannot[i][k]);
+            }
+            due("40 bytes: it can't be READ, " + i, v.content(1, 8), 0);
+            due("40 bytes: a byte of it, " + i, v.at(0, 1, true, 39), -3);
+            due("40 bytes: a byte behind it, " + i, v.at(0, 1, true, 40), -2);
+            due("40 bytes: mended, " + i, mend(v, 1, "#" + LONG.substring(0, 39)), 1);
+            due("40 bytes: a byte of it then, " + i, v.at(0, 1, true, 39), LONG.charAt(38));
+        }
     }
 
     /** Whether content 1 of CHAINED can be read with these bytes; the byte behind them is 28. */
@@ -361,6 +429,61 @@ public final class BoundaryTest extends VaultCalls {
     }
 
     // ---- promises ----
+
+    /** CONTENT 39, the last one that can be, in all that looks at all CONTENTS. */
+    private static void lastNumber() {
+        Start forty = fortyLess(0);
+        taken("39: goes", forty, v -> v.drop(3), 10);
+        taken("39: its bytes are free", forty.then(v -> v.drop(3)), v -> v.count(7), 340);
+        taken("39: ALONE", forty, v -> v.of(3, 4), 20);
+        taken("39: DROPS", forty.then(v -> v.seal(0, true)).then(v -> v.seal(1, true)).then(v -> v.seal(2, true)), v -> v.drops(20, 1), 8);
+        taken("39: KEPT bytes", forty, v -> v.count(6), 80);
+        taken("39: SPOILT", forty.then(v -> v.spoil(79, 0)), v -> v.count(8), 1);
+        taken("39: TOUCHED", forty.then(v -> v.spoil(79, 0)), v -> v.touched(0, 2), 39);
+        taken("39: cured", forty.then(v -> v.spoil(79, 0)), EditionVault::cure, 1);
+        taken("39: THE STAGE has it", forty, v -> v.file(-1, 9, 2), 39);
+        Start twice = forty.written("k", "((").then(EditionVault::commit);
+        due("39: the bytes", twice.make().row(79), '(');
+        taken("39: no CONTENT more", twice, v -> v.count(5), 40);
+        taken("39: weakest", twice, v -> v.weakest(0), 78);
+        taken("39: hang on it", twice, v -> v.weakest(1), 3);
+        taken("39: hang on it, asked once more", twice.then(v -> v.weakest(1)), v -> v.weakest(1), 3);
+        lastByAnother();
+        lastAsBase();
+    }
+
+    private static void lastByAnother() {
+        Start by = fortyLess(2).written("y", LONG).written("z", "#" + LONG.substring(0, 30) + "#").then(EditionVault::commit);
+        taken("39 by 38: DEPTH", by, v -> v.count(13), 1);
+        taken("39 by 38: one by a BASE", by, v -> v.count(12), 1);
+        taken("39 by 38: its BASE", by, v -> v.content(39, 4), 38);
+        taken("39 by 38: that is one's BASE", by, v -> v.content(38, 7), 1);
+        taken("39 by 38: KEPT bytes", by, v -> v.count(6), 122);
+        taken("39 by 38: CONTENTS on a byte of 38", by, v -> v.risk(76, 0), 2);
+        taken("39 by 38: PATHS on a byte of 38", by, v -> v.risk(76, 1), 2);
+        taken("39 by 38: CONTENTS on a byte of 39", by, v -> v.risk(116, 0), 1);
+        taken("39 by 38: ALONE", by, v -> v.of(4, 4), 46);
+        taken("39 by 38: 38 is SPOILT", by.then(v -> v.spoil(80, 0)), v -> v.count(8), 2);
+        taken("39 by 38: 38 is cured", by.then(v -> v.spoil(80, 0)), EditionVault::cure, 1);
+        taken("39 by 38: 39 is cured", by.then(v -> v.spoil(117, 0)), EditionVault::cure, 1);
+        taken("39 by 38: both are cured", by.then(v -> v.spoil(80, 0)).then(v -> v.spoil(117, 0)), EditionVault::cure, 2);
+        taken("39 by 38: anew", by, EditionVault::thrift, 122);
+        taken("39 by 38: PIECES by 38", by, v -> v.pieces(39, 38), 6);
+        taken("39 by 38: PIECES by itself", by, v -> v.pieces(39, 39), 2);
+        taken("39 by 38: both go", by, v -> v.drop(4), 2);
+    }
+
+    private static void lastAsBase() {
+        Start base = fortyLess(1).written("z", LONG).then(EditionVault::commit).then(v -> v.drop(0))
+            .written("z", "#" + LONG.substring(0, 30) + "#").then(EditionVault::commit);
+        taken("0 by 39: its BASE", base, v -> v.content(0, 4), 39);
+        taken("0 by 39: KEPT", base, v -> v.content(0, 3), 6);
+        taken("0 by 39: DEPTH", base, v -> v.count(13), 1);
+        taken("0 by 39: CONTENTS on a byte of 39", base, v -> v.risk(v.content(39, 2), 0), 2);
+        taken("0 by 39: 39 is SPOILT", base.then(v -> v.spoil(v.content(39, 2), 0)), v -> v.count(8), 2);
+        // anew 0 comes first, plain: 39 by it takes two bytes and eleven for its last ten
+        taken("0 by 39: anew", base, EditionVault::thrift, 29 * 2 + 32 + 13);
+    }
 
     private static void promise1() {
         for (int i = 0; i < 400; i += 200) {
@@ -599,6 +722,9 @@ public final class BoundaryTest extends VaultCalls {
         taken("7: another PATH", FORKED.then(v -> move(v, "a", "aa")), EditionVault::commit, 3);
         taken("7: not WHOLE", FORKED.then(v -> v.spoil(v.content(4, 2), 0)), EditionVault::commit, 3);
         taken("7: not WHOLE, the last one", FORKED.then(v -> v.spoil(v.content(1, 2), 0)), EditionVault::commit, 3);
+        Start readSo = FORKED.then(v -> v.spoil(v.content(4, 2), 0)).written("a", "\0NE1234");
+        taken("7: not WHOLE, but READ as THE STAGE has it", readSo, EditionVault::commit, 3);
+        taken("7: what is not WHOLE is KEPT anew", readSo.then(EditionVault::commit), v -> v.file(3, 0, 2), 5);
         taken("7: ALSO OF one", FORKED.then(v -> v.join(2, 2)), EditionVault::commit, 3);
         taken("7: THE STAGE is OF it then", FORKED.then(v -> v.join(1, 2)).then(EditionVault::commit), v -> v.count(1), 3);
         taken("7: THE STAGE is ALSO OF none then", FORKED.then(v -> v.join(1, 2)).then(EditionVault::commit), v -> v.count(2), -2);
@@ -961,6 +1087,18 @@ public final class BoundaryTest extends VaultCalls {
         due("11: free bytes are 0, the last", free.row(399), 0);
     }
 
+    /** Nine of 40, one of 39, one of one byte at 399; then the first one goes. */
+    private static void packedFromTheEnd() {
+        Start end = nineAnd(39).written("k", "!").then(EditionVault::commit).then(v -> remove(v, "a"))
+            .then(EditionVault::commit).then(v -> v.thin(1));
+        taken("11: ahead of it, the last byte", end, v -> v.owner(399), 10);
+        taken("11: the last byte moves, too", end, EditionVault::pack, 360);
+        taken("11: the last byte is at", end.then(EditionVault::pack), v -> v.content(10, 2), 359);
+        taken("11: the last byte is", end.then(EditionVault::pack), v -> v.row(359), '!');
+        taken("11: behind it all is 0", end.then(EditionVault::pack), v -> v.row(360) + v.row(399), 0);
+        taken("11: what the last CONTENT had is free", end.then(EditionVault::pack), v -> v.count(7), 40);
+    }
+
     private static void promise12() {
         for (int place : new int[] {LEAST, -1, 400, MOST}) {
             refused("12: place " + place, FORKED, v -> v.spoil(place, 1), NONE);
@@ -1000,6 +1138,9 @@ public final class BoundaryTest extends VaultCalls {
         String b = "#" + LONG.substring(0, 30) + "#";
         refusedTapeGone("13: one byte more", CHAINED.with(b + "#"), v -> v.mend(1, 33), -3);
         refusedTapeGone("13: another MARK", CHAINED.with("#" + b), v -> v.mend(1, 32), -3);
+        refusedTapeGone("13: its MARK, one byte more", FORKED.with(marked(mark("one"))), v -> v.mend(0, 4), -3);
+        refusedTapeGone("13: its MARK, three bytes less", FORKED.with(marked(mark("ONE1234"))), v -> v.mend(4, 4), -3);
+        refusedTapeGone("13: its MARK, 28 less, -3 ahead of -4", CHAINED.with(marked(mark(b))), v -> v.mend(1, 4), -3);
         taken("13: n 0", NEW.written("a", "").then(EditionVault::commit).with("x"), v -> v.mend(0, 0), 1);
         taken("13: n 0, the tape", NEW.written("a", "").then(EditionVault::commit).with("x").then(v -> v.mend(0, 0)), v -> v.count(11), 0);
         taken("13: n 0, no tape", NEW.written("a", "").then(EditionVault::commit), v -> v.mend(0, 0), 1);
@@ -1030,6 +1171,8 @@ public final class BoundaryTest extends VaultCalls {
             .then(v -> remove(v, "c")).then(v -> remove(v, "d")), EditionVault::cure, 0);
         refused("14: a BASE that none mends", CHAINED.then(v -> v.spoil(0, 0)).then(v -> remove(v, "a")), EditionVault::cure, 0);
         refused("14: one of like length", FORKED.then(v -> v.spoil(4, 0)).written("b/c", "two?"), EditionVault::cure, 0);
+        refused("14: one of like MARK", FORKED.then(v -> v.spoil(18, 0)).written("a", marked(mark("ONE1234"))),
+            EditionVault::cure, 0);
         taken("14: the last FILE", CHAINED.then(v -> v.spoil(50, 9)), EditionVault::cure, 1);
         taken("14: the first FILE", CHAINED.then(v -> v.spoil(0, 9)), EditionVault::cure, 1);
         taken("14: none is SPOILT then", CHAINED.then(v -> v.spoil(0, 9)).then(EditionVault::cure), v -> v.count(8), 0);
@@ -1631,6 +1774,8 @@ public final class BoundaryTest extends VaultCalls {
         taken("32: no BYTES", NEW.written("a", ""), v -> v.file(-1, 0, 1), 0);
         refused("32: a CONTENT, none", NEW.written("a", ""), v -> v.file(-1, 0, 2), -2);
         refused("32: a CONTENT, SPOILT", FORKED.then(v -> v.spoil(18, 0)), v -> v.file(-1, 0, 2), -2);
+        refused("32: a CONTENT, SPOILT, READ as THE STAGE has it", FORKED.then(v -> v.spoil(18, 0)).written("a", "\0NE1234"),
+            v -> v.file(-1, 0, 2), -2);
         taken("32: an EDITION's is SPOILT", FORKED.then(v -> v.spoil(18, 0)), v -> v.file(2, 0, 2), 4);
         // kept anew while the first was spoilt: both are whole in the end
         Start twice = FORKED.then(v -> v.spoil(18, 0)).then(EditionVault::commit).then(v -> v.spoil(18, 'O'));
@@ -1911,10 +2056,12 @@ public final class BoundaryTest extends VaultCalls {
     public static void main(String[] args) {
         gatherQuestions();
         paths();
+        longNeighbours();
         marks();
         reading();
         pieces();
         places();
+        lastNumber();
         promise1();
         promise2();
         promise3();
@@ -1929,6 +2076,7 @@ public final class BoundaryTest extends VaultCalls {
         promise9Many();
         promise10();
         promise11();
+        packedFromTheEnd();
         promise12();
         promise13();
         promise14();
